@@ -666,7 +666,8 @@ public final class MachineWitness {
             for (int left = upper - unit; left > 0; left -= SPARE_BITS) {
                 rest = (rest << Math.min(left, SPARE_BITS)) % by;
             }
-            return signed(scaled(rest, unit), a);
+            double answer = scaled(rest, unit);
+            return isNegative(a) ? -1.0 * answer : answer;
         }
 
         static boolean isNegative(double v) {
