@@ -16,6 +16,8 @@ public final class MachineWitness {
     private static final int MOST_UNDER_WAY = 8, MOST_TURNS = 500, MOST_FAILURES = 20;
     private static final int MOST_THINGS = 160, MOST_ITEMS = 12, MOST_INNER_ROWS = 6;
     private static final int NUMBERS = 8, DOUBLES = 4, FLOATS = 4, HOLDS = 8;
+
+    /** The NUMBER in which a HANDLER finds its FAILURE. */
     private static final int CAUGHT = 7;
 
     /** An ACT and a HANDLER are four numbers each. */
@@ -170,7 +172,7 @@ public final class MachineWitness {
             return BAD;
         }
         int at = thread;
-        // A ring that leaves this THREAD out would never come back: three steps see all there are.
+        // Counted, as a ring of the other two would never come back here.
         for (int i = 0; i < THREADS; i++) {
             int awaited = strands[at].waitsFor;
             at = awaited == NONE ? NONE : things.owners[awaited];
@@ -607,7 +609,7 @@ public final class MachineWitness {
             return answer;
         }
 
-        /** The e with 2 to the e not above v, but twice that: v is above 0 and not endless. */
+        /** The e for which v is at least 2 to the e and below twice that; v is above 0 and not endless. */
         private int exponentOf(double v) {
             double rest = v;
             int e = 0;

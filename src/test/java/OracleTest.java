@@ -37,6 +37,7 @@ public final class OracleTest {
         }
         DUE.due("some WAITED", waited > 0 ? 1 : 0, 1);
         DUE.due("some in a ring", rings > 0 ? 1 : 0, 1);
+        System.out.println(waited + " times one WAITED, " + rings + " rings");
         DUE.finish();
     }
 
@@ -95,10 +96,10 @@ public final class OracleTest {
                     due("clear", x.clear(), o.clear());
                 }
                 return 1;
-            case 2: case 3:
+            case 2:
                 chanceHandler(p);
                 return 1;
-            case 4:
+            case 3: case 4:
                 lay();
                 return 1;
             case 5: case 6: case 7: case 8: case 9: case 10:
@@ -185,8 +186,10 @@ public final class OracleTest {
             b = below(5) == 0 ? -1 : 20 + below(10);
         } else if (op == 60) {
             c = below(4);
+        } else if (op == 64 && below(4) > 0) {
+            b = 5 + below(3);
         }
-        if (below(2) == 0) {
+        if (below(2) == 0 || flavour == 0) {
             a &= 3;
             c = c > 7 ? c : c & 3;
         }

@@ -101,6 +101,19 @@ public final class RowsTest {
         due("things", w.x.count(0), 154);
         due("6 more and their ROW", w.run(act(16, 1, 0, 1)), ROOM);
         due("5 more and their ROW", w.run(act(0, 0, 5, 0), act(16, 1, 0, 1)), 0);
+        for (int[] last : new int[][] {act(14, 0, 4, 0), act(15, 0, 4, 0), act(18, 0, 4, 0), act(47, 0, 1, 0),
+            act(17, 0, 1, 1)}) {
+            Bench v = new Bench();
+            v.run(act(0, 0, 6, 0), act(0, 1, 0, 0));
+            for (int i = 0; i < 22; i++) {
+                v.run(act(16, 1, 0, 1));
+            }
+            v.run(act(0, 0, 4, 0), act(16, 1, 0, 1), act(0, 0, 0, 0));
+            due("159 things", v.x.count(0), 159);
+            due("the last by " + last[0], v.run(last), 0);
+            due("160 things", v.x.count(0), 160);
+            due("one more by " + last[0], v.run(last), ROOM);
+        }
         due("things", w.x.count(0), 160);
         due("18", w.run(act(18, 2, 0, 0)), ROOM);
         due("14", w.run(act(14, 2, 0, 1)), ROOM);
