@@ -346,5 +346,23 @@ public final class FaceTest {
             due("clear", x.clear(), 1);
         }
         due("clear of nothing", x.clear(), 0);
+        clearedItems();
+    }
+
+    private static void clearedItems() {
+        for (int sort = 0; sort < 8; sort++) {
+            Bench w = new Bench();
+            w.run(Bench.act(0, 0, 12, 0), Bench.act(14, 0, sort, 0), Bench.act(1, 1, 5, 0), Bench.act(2, 1, 5, 0),
+                Bench.act(0, 1, 5, 0));
+            for (int i = 0; i < 12; i++) {
+                w.run(Bench.act(0, 0, i, 0), Bench.act(28 + sort, 1, 0, 0));
+                due("an ITEM is written", w.x.item(0, i) != 0 ? 1 : 0, 1);
+            }
+            due("clear", w.x.clear(), 1);
+            w.run(Bench.act(0, 0, 12, 0), Bench.act(14, 0, sort, 0));
+            for (int i = 0; i < 12; i++) {
+                due("a new ITEM where another was", w.x.item(0, i), 0);
+            }
+        }
     }
 }

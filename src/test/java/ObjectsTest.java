@@ -157,6 +157,9 @@ public final class ObjectsTest {
             due("its body was begun", w.x.trace(), trace[c]);
             w.run(act(1, 0, 9, 0), act(52, 0, 1, 0));
             due("and then not endless", w.run(act(54, 1, 0, 0)), 0);
+            w.setDouble(0, Double.POSITIVE_INFINITY);
+            due("of an endless one", w.run(act(52, 0, 1, 0), act(54, 1, 0, 0)), c == 4 ? ENDLESS : 0);
+            due("and then of another", w.run(act(18, 1, 0, 0), act(54, 1, 1, 0)), 0);
         }
     }
 
