@@ -60,4 +60,35 @@ final class Bench {
         setDouble(2, v);
         run(act(11, k, 7, 2));
     }
+
+    /**
+     * NUMBERS 0, 1, 2, -1, 13, 7, 7, 99; DOUBLES and FLOATS 0.0, endless, the other endless, 1.0.
+     * HOLDS: 0 two ints; 1 two LEAVES (none); 2 a TWIG; 3 a STONE, its x endless; 4 two ROWS of an int;
+     * 5 two ROWS of a double; 6 two doubles; 7 none.
+     */
+    static Bench furnished() {
+        Bench w = new Bench();
+        w.run(act(0, 1, 1, 0), act(0, 2, 2, 0), act(0, 3, -1, 0), act(0, 4, 13, 0), act(0, 5, 7, 0), act(0, 6, 7, 0),
+            act(0, 7, 99, 0), act(14, 0, 4, 2), act(15, 1, 1, 2), act(18, 2, 3, 0), act(18, 3, 4, 0), act(16, 4, 2, 1),
+            act(17, 5, 2, 1), act(14, 6, 7, 2), act(1, 1, 1, 60), act(5, 1, 2, 1), act(5, 1, 2, 1), act(5, 1, 2, 1),
+            act(5, 1, 2, 1), act(5, 1, 2, 1), act(7, 2, 5, 1), act(1, 3, 1, 0), act(2, 1, 1, 60), act(6, 1, 2, 1),
+            act(6, 1, 2, 1), act(8, 2, 5, 1), act(2, 3, 1, 0), act(52, 1, 1, 3));
+        return w;
+    }
+
+    /** New THINGS until there are so many; HOLD 7 and NUMBERS 6 and 7 are lost. */
+    void fill(int things) {
+        while (x.count(0) < things) {
+            int sevens = Math.min((things - x.count(0)) / 7, 30);
+            int[][] acts = new int[sevens > 0 ? sevens + 2 : things - x.count(0)][];
+            for (int i = 0; i < acts.length; i++) {
+                acts[i] = sevens > 0 ? act(16, 7, 7, 6) : act(18, 7, 0, 0);
+            }
+            if (sevens > 0) {
+                acts[0] = act(0, 7, 6, 0);
+                acts[1] = act(0, 6, 0, 0);
+            }
+            run(acts);
+        }
+    }
 }

@@ -150,23 +150,12 @@ public final class FaceTest {
     private static final int[] EDGES = {Integer.MIN_VALUE, -61, -60, -2, -1, 0, 1, 2, 3, 4, 5, 6, 7, 8, 9, 11, 12,
         14, 15, 16, 19, 20, 21, 24, 25, 26, 29, 30, 39, 40, 60, 61, Integer.MAX_VALUE};
 
-    /** Every op with every edge, against the document's words in shape(); a full PROGRAM is emptied. */
+    /** Every op with every edge, against the document's words in shape(). */
     private static void actsRefused() {
         for (int op = -1; op <= 67; op++) {
-            MachineWitness x = new MachineWitness();
-            int made = 0;
             for (int a : EDGES) {
                 for (int b : EDGES) {
-                    for (int c : EDGES) {
-                        int want = fits(op, a, b, c) ? made : -1;
-                        String call = "act(3, " + op + ", " + a + ", " + b + ", " + c + ")";
-                        due(call, x.act(3, op, a, b, c), want);
-                        made += want >= 0 ? 1 : 0;
-                        if (made == 40) {
-                            due("empty(3)", x.empty(3), 40);
-                            made = 0;
-                        }
-                    }
+                    actsWithEveryC(op, a, b);
                 }
             }
         }
@@ -176,6 +165,17 @@ public final class FaceTest {
         }
         for (int program : new int[] {-1, 6, Integer.MIN_VALUE, Integer.MAX_VALUE}) {
             due("act of " + program, x.act(program, 0, 0, 0, 0), -1);
+        }
+    }
+
+    /** A new object each time, as nothing is promised of one behind its 512th call. */
+    private static void actsWithEveryC(int op, int a, int b) {
+        MachineWitness x = new MachineWitness();
+        int made = 0;
+        for (int c : EDGES) {
+            int want = fits(op, a, b, c) ? made : -1;
+            due("act(3, " + op + ", " + a + ", " + b + ", " + c + ")", x.act(3, op, a, b, c), want);
+            made += want >= 0 ? 1 : 0;
         }
     }
 
