@@ -342,6 +342,26 @@ public final class EdgesOfCallsTest extends Edges {
         due("with the last ACT all end", x.turn(0, 1), 0);
         due("none under way", x.told(0, 5), 0);
         due("no THREAD under way", x.count(7), 0);
+        endOfEight();
+    }
+
+    /** PROGRAM 5 CALLS itself until N 0 is 3: eight are under way, and all end with one ACT. */
+    private static void endOfEight() {
+        MachineWitness x = new MachineWitness();
+        x.act(0, 0, 1, 1, 0);
+        for (int p = 0; p < 5; p++) {
+            x.act(p, 62, p + 1, 0, 0);
+        }
+        x.act(5, 3, 0, 0, 1);
+        x.act(5, 0, 2, 3, 0);
+        x.act(5, 3, 2, 1, 0);
+        x.act(5, 60, 5, 2, 0);
+        x.act(5, 62, 5, 0, 0);
+        x.start(0, 0);
+        due("all but the last ACT", x.turn(0, 1 + 5 + 5 + 5 + 3), 1);
+        due("eight under way", x.told(0, 5), 8);
+        due("with the last ACT all end", x.turn(0, 1), 0);
+        due("none under way", x.told(0, 5), 0);
     }
 
     /** "A NUMBER. LOST: BAD." */

@@ -17,6 +17,7 @@ public final class EdgesOfFiguresTest extends Edges {
         productOf0AndEndless();
         quotientOfNothings();
         restOfNothings();
+        restOfFarApart();
         tooLargeIsEndless();
         zerosAreOrdered();
         signsOfZeros();
@@ -48,7 +49,7 @@ public final class EdgesOfFiguresTest extends Edges {
                 Bench w = new Bench();
                 due("-61", w.x.act(1, op, 0, b, -61), -1);
                 due("61", w.x.act(1, op, 0, b, 61), -1);
-                w.run(act(op, 0, b, -60), act(op, 1, b, 60), act(op, 2, b, 0));
+                due("1, 2", w.run(act(op, 0, b, -60), act(op, 1, b, 60), act(op, 2, b, 0)), 0);
                 int[] powers = {-60, 60, 0};
                 for (int k = 0; k < 3; k++) {
                     double want = b * Math.pow(2, powers[k]);
@@ -275,6 +276,33 @@ public final class EdgesOfFiguresTest extends Edges {
         comes(4, -7.0, 4.0, -3.0);
     }
 
+    /** "4 %" is exact, however far apart the two are. */
+    private static void restOfFarApart() {
+        double[] ps = {Double.MAX_VALUE, -Double.MAX_VALUE, 1e300, 1.0, Math.nextDown(1.0), 3 * Double.MIN_VALUE,
+            Double.MIN_NORMAL, Math.nextDown(Double.MIN_NORMAL), -0x1p1023};
+        double[] qs = {Double.MIN_VALUE, 2 * Double.MIN_VALUE, 3 * Double.MIN_VALUE, Double.MIN_NORMAL, 0.1,
+            Math.nextDown(2.0), 3.0, -3.0, 0x1.fffffffffffffp-1022, Double.MAX_VALUE, Math.nextDown(Double.MIN_NORMAL)};
+        for (double p : ps) {
+            for (double q : qs) {
+                Bench w = new Bench();
+                w.setDouble(0, p);
+                w.setDouble(1, q);
+                due(p + " % " + q, w.run(act(5, 0, 4, 1)), 0);
+                due(p + " % " + q, w.x.real(0, 0), bits(p % q));
+            }
+        }
+        float[] fs = {Float.MAX_VALUE, -1.0f, 3 * Float.MIN_VALUE, Float.MIN_NORMAL, 0.1f, Math.nextDown(2.0f)};
+        for (float p : fs) {
+            for (float q : fs) {
+                Bench w = new Bench();
+                w.setFloat(0, p);
+                w.setFloat(1, q);
+                due(p + " % " + q, w.run(act(6, 0, 4, 1)), 0);
+                due(p + " % " + q, w.x.small(0, 0), bits(p % q));
+            }
+        }
+    }
+
     /** Beyond the greatest it is endless, and no FAILURE; nearer to 0.0 than the least it is 0.0. */
     private static void tooLargeIsEndless() {
         Bench w = new Bench();
@@ -321,7 +349,7 @@ public final class EdgesOfFiguresTest extends Edges {
 
     private static void fn(int how, double v, double want) {
         Bench w = reals(v, 0.0);
-        w.run(act(7, 2, how, 0), act(8, 2, how, 0));
+        due("fn " + how + " of " + v, w.run(act(7, 2, how, 0), act(8, 2, how, 0)), 0);
         due("7: fn " + how + " of " + v, w.x.real(0, 2), bits(want));
         due("8: fn " + how + " of " + v, w.x.small(0, 2), bits((float) want));
     }
@@ -393,7 +421,7 @@ public final class EdgesOfFiguresTest extends Edges {
             {ENDLESS_UP, ENDLESS_UP, 0}, {0x1p-149, 0.0, 1}, {-0x1p-149, -0.0, -1}, {1.0, 1.0, 0}};
         for (double[] p : pairs) {
             Bench w = reals(p[0], p[1]);
-            w.run(act(9, 4, 0, 1), act(10, 5, 0, 1));
+            due("9, 10", w.run(act(9, 4, 0, 1), act(10, 5, 0, 1)), 0);
             due("9: " + p[0] + ", " + p[1], w.x.number(0, 4), (long) p[2]);
             due("10: " + p[0] + ", " + p[1], w.x.number(0, 5), (long) p[2]);
         }
@@ -405,7 +433,7 @@ public final class EdgesOfFiguresTest extends Edges {
             -0.75, -0.0, 0x1p62};
         for (double v : vs) {
             Bench w = reals(v, 0.0);
-            w.run(act(11, 0, 1, 0), act(11, 1, 2, 0), act(11, 2, 4, 0), act(11, 3, 5, 0));
+            due("11", w.run(act(11, 0, 1, 0), act(11, 1, 2, 0), act(11, 2, 4, 0), act(11, 3, 5, 0)), 0);
             due(v + " as a long", w.x.number(0, 0), (long) v);
             due(v + " as an int", w.x.number(0, 1), (int) v);
             due(v + ", a float, as a long", w.x.number(0, 2), (long) (float) v);

@@ -29,6 +29,7 @@ public final class EdgesOfRowsTest extends Edges {
         allRowsAreCloneable();
         sameThings();
         fieldsTaken();
+        fieldsAtTheirEdges();
         marksAsInts();
         nextAndLineTaken();
         DUE.finish();
@@ -46,7 +47,9 @@ public final class EdgesOfRowsTest extends Edges {
         w.run(act(18, 0, 0, 0), act(12, 7, LEAST, 0), act(12, 0, GREATEST, 0), act(13, 6, LEAST, GREATEST));
         due("12", w.x.hold(0, 7), 0);
         due("12 of itself", w.x.hold(0, 0), 0);
-        due("the THING is there still", w.run(act(13, 0, 0, 0), act(13, 7, 0, 0)), 0);
+        due("13", w.run(act(13, 0, 0, 0), act(13, 7, 0, 0)), 0);
+        due("none is held", w.x.hold(0, 0), -1);
+        due("none is held", w.x.hold(0, 7), -1);
         due("the THING is there still", w.x.thing(0, 0), 16);
     }
 
@@ -432,6 +435,29 @@ public final class EdgesOfRowsTest extends Edges {
             }
         }
         due("52 has no TALLY", new MachineWitness().act(0, 52, 0, 5, 0), -1);
+    }
+
+    /** "51 of T c: by b: 0 N a becomes its n, 1 X a x, 2 F a f, 3 T a NEXT, 4 T a LINE, 5 N a TALLY". */
+    private static void fieldsAtTheirEdges() {
+        float[] fs = {-0.0f, Float.MIN_VALUE, -Float.MAX_VALUE, Float.POSITIVE_INFINITY};
+        double[] xs = {-0.0, Double.MIN_VALUE, -Double.MAX_VALUE, Double.NEGATIVE_INFINITY};
+        for (int i = 0; i < 4; i++) {
+            Bench w = new Bench();
+            w.setFloat(0, fs[i]);
+            w.setDouble(0, xs[i]);
+            w.run(act(18, 0, 0, 0), act(0, 0, 0, 0), act(14, 1, 4, 0), act(52, 0, 1, 0), act(52, 0, 2, 0), act(52, 0, 3, 0),
+                act(52, 1, 4, 0), act(55, 1, 0, 0));
+            due("51", w.run(act(51, 3, 1, 0), act(51, 3, 2, 0), act(51, 6, 3, 0), act(51, 7, 4, 0), act(51, 4, 5, 0)), 0);
+            due("x", w.x.real(0, 3), bits(xs[i]));
+            due("f", w.x.small(0, 3), bits(fs[i]));
+            due("NEXT, itself", w.x.hold(0, 6), 0);
+            due("LINE", w.x.hold(0, 7), 1);
+            due("TALLY", w.x.number(0, 4), 1);
+        }
+        Bench w = new Bench();
+        w.run(act(18, 0, 0, 0), act(18, 6, 0, 0), act(18, 7, 0, 0), act(51, 6, 3, 0), act(51, 7, 4, 0));
+        due("NEXT none", w.x.hold(0, 6), -1);
+        due("LINE none", w.x.hold(0, 7), -1);
     }
 
     /** "(MARKS as an int ..)", and n as a long. */

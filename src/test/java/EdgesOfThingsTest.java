@@ -13,10 +13,12 @@ public final class EdgesOfThingsTest extends Edges {
         rowsAreOfClassesAbove();
         faces();
         marksOfTheirOwn();
+        bodiesByTheirNumbers();
         traceWraps();
         weighWraps();
         measureAtItsEdges();
         stonesMeasure();
+        endlessIsOfOneMeasure();
         countAtItsEdges();
         bloomWraps();
         hardnessAtItsEdges();
@@ -91,7 +93,9 @@ public final class EdgesOfThingsTest extends Edges {
                 due(call, w.run(act(op, 0, 1, 2)), want[i] == 0 ? 0 : endBy(want[i]));
                 due(call + ": count", w.x.count(0), want[i] == 0 ? 1 + sizes[i][0] : 0);
                 for (int t = 1; t < w.x.count(0); t++) {
-                    due(call + ": its ROWS", w.x.thing(t, 1), sizes[i][1]);
+                    due(call + ": its ROWS", w.x.item(0, t - 1), t);
+                    due(call + ": their SORT", w.x.thing(t, 0), op == 16 ? 4 : 7);
+                    due(call + ": their ITEMS", w.x.thing(t, 1), sizes[i][1]);
                 }
             }
         }
@@ -215,6 +219,28 @@ public final class EdgesOfThingsTest extends Edges {
         }
     }
 
+    /** "METHODS, each with a body by a number, TRACED as it begins". */
+    private static void bodiesByTheirNumbers() {
+        int[][] weigh = {{1}, {2, 1}, {2, 1}, {3, 2, 1}, {4, 1}};
+        int[][] measure = {{5}, {6, 5}, {7, 6, 5}, {7, 6, 5}, {8}};
+        int[][] count = {{9}, {10, 9, 9}, {10, 9, 9}, {11, 10, 9, 9}, {9}};
+        int[][] bloom = {{}, {}, {12, 13}, {12, 14}, {}};
+        int[][] hardness = {{}, {}, {}, {}, {15}};
+        int[][][] bodies = {weigh, measure, count, bloom, hardness};
+        for (int op = 53; op <= 57; op++) {
+            for (int c = 0; c < 5; c++) {
+                int trace = 0;
+                for (int body : bodies[op - 53][c]) {
+                    trace = 31 * trace + body;
+                }
+                Bench w = new Bench();
+                w.run(act(18, 0, c, 0));
+                due(op + " of CLASS " + c, w.run(act(op, 1, 0, 1)), trace == 0 ? endBy(CAST) : 0);
+                due(op + " of CLASS " + c + ": THE TRACE", w.x.trace(), trace);
+            }
+        }
+    }
+
     /** "THE TRACE, an int that wraps, 0 at first, becomes 31 times it and the number". */
     private static void traceWraps() {
         Bench w = new Bench();
@@ -291,6 +317,16 @@ public final class EdgesOfThingsTest extends Edges {
         }
         due("x endless", withX(4, Double.POSITIVE_INFINITY).run(act(54, 1, 0, 0)), endBy(ENDLESS));
         due("x endless below", withX(4, Double.NEGATIVE_INFINITY).run(act(54, 1, 0, 0)), endBy(ENDLESS));
+    }
+
+    /** A MEASURE that FAILED leaves nothing to the next. */
+    private static void endlessIsOfOneMeasure() {
+        Bench w = withX(4, Double.POSITIVE_INFINITY);
+        w.run(act(18, 1, 0, 0), act(18, 2, 4, 0));
+        for (int k = 1; k <= 2; k++) {
+            due("x endless", w.run(act(54, 1, 0, 0)), endBy(ENDLESS));
+            due("then of HOLD " + k, w.run(act(54, 1, k, 0)), 0);
+        }
     }
 
     /** "COUNT: NODE's (9): TALLY becomes 1 more .. TWIG's (11): LEAF's and the NODE's MARK", as ints. */
