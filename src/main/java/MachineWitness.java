@@ -817,32 +817,17 @@ public final class MachineWitness {
             return DONE;
         }
 
+        /** As longs, cut off, but for the shifts: they look at fewer bits of y, and >>> at fewer of x. */
         private static int ofInts(int how, int x, int y) {
             switch (how) {
-                case PLUS:
-                    return x + y;
-                case MINUS:
-                    return x - y;
-                case TIMES:
-                    return x * y;
-                case OVER:
-                    return x / y;
-                case REST:
-                    return x % y;
                 case 5:
                     return x << y;
                 case 6:
                     return x >> y;
                 case 7:
                     return x >>> y;
-                case 8:
-                    return x & y;
-                case 9:
-                    return x | y;
-                case 10:
-                    return x ^ y;
                 default:
-                    return Integer.compare(x, y);
+                    return (int) ofLongs(how, x, y);
             }
         }
 
